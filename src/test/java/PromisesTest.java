@@ -1,3 +1,5 @@
+import java.util.Random;
+
 /** One method a promise: ordinary inputs, the edges that the document names, and wrong inputs. */
 public final class PromisesTest {
     private static final int[] WRONG = {Integer.MIN_VALUE, -1000, -2, -1, Integer.MAX_VALUE};
@@ -69,16 +71,11 @@ public final class PromisesTest {
         due("1: spread 50 is not reached here", wearWhenColdBlockIsErased(50, 200), WornFlash.NONE);
     }
 
-    private static int wearWhenColdBlockIsErased(int spread, int stores) {
-        WornFlash flash = new WornFlash(5, spread);
-        for (int sector = 0; sector < 8; sector++) {
-            flash.write(sector, sector);
-        }
-        flash.flush();
+    /** The greatest wear just before block 0 is erased; a new object each time, for its 512 calls. */
+    private static int wearWhenColdBlockIsErased(int spread, int mostStores) {
         int before = 0;
-        for (int i = 0; i < stores; i++) {
-            flash.write(7, i);
-            flash.flush();
+        for (int stores = 1; stores <= mostStores; stores++) {
+            WornFlash flash = withHotSector(spread, stores);
             if (flash.erasures(0) > 0) {
                 return before;
             }
@@ -87,6 +84,19 @@ public final class PromisesTest {
             }
         }
         return WornFlash.NONE;
+    }
+
+    private static WornFlash withHotSector(int spread, int stores) {
+        WornFlash flash = new WornFlash(5, spread);
+        for (int sector = 0; sector < 8; sector++) {
+            flash.write(sector, sector);
+        }
+        flash.flush();
+        for (int i = 0; i < stores; i++) {
+            flash.write(7, i);
+            flash.flush();
+        }
+        return flash;
     }
 
     private static void promise2Sectors() {
@@ -268,18 +278,15 @@ public final class PromisesTest {
     }
 
     private static void endsAfterAThousand() {
-        WornFlash flash = new WornFlash(12, 50);
+        WornFlash flash = new WornFlash(12, 1);
+        Random random = new Random(1);
         flash.fuse(1000);
-        int calls = 0;
         int answer = WornFlash.DONE;
-        while (answer == WornFlash.DONE && calls < 480) {
-            for (int i = 0; i < 3; i++) {
-                flash.write((calls * 7 + i * 11) % 36, calls);
-            }
-            answer = flash.flush();
-            calls += 4;
+        for (int calls = 1; calls < 500 && answer == WornFlash.DONE; calls++) {
+            answer = flash.write(random.nextInt(36), calls);
         }
-        due("7: a thousand is counted whole", answer == WornFlash.CUT ? flash.operations() : 999, 999);
+        due("7: a thousand is reached", answer, WornFlash.CUT);
+        due("7: and counted whole", flash.operations(), 999);
     }
 
     private static void promise8Read() {
