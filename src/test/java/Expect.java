@@ -16,6 +16,14 @@ final class Expect {
         }
     }
 
+    void same(String what, Object got, Object due) {
+        asked++;
+        if (!got.equals(due)) {
+            wrong++;
+            System.out.println(test + ": " + what + " answered " + got + ", due is " + due);
+        }
+    }
+
     void yes(String what, boolean got) {
         equal(what, got ? 1 : 0, 1);
     }
