@@ -48,6 +48,7 @@ public final class TermsTest {
         cutWithNoBlockFreeNeverForWear();
         cutNeverCollectsThePartBlock();
         cutCopiesIntoTheOpenBlock();
+        cutCopiesUntilTheOpenBlockIsFull();
         EXPECT.finish();
     }
 
@@ -654,5 +655,25 @@ public final class TermsTest {
         for (int sector = 0; sector < 8; sector++) {
             due("nothing is lost", flash.read(sector), 100 + sector);
         }
+    }
+    /** There is just room then: the copies fill the open block, which stays open as a full one does. */
+    private static void cutCopiesUntilTheOpenBlockIsFull() {
+        WornFlash flash = new WornFlash(5, 1);
+        Runs.fill(flash, 0, 3);
+        Runs.store(flash, 7, 23);
+        Runs.fill(flash, 5, 5);
+        Runs.store(flash, 7, 3);
+        Runs.fill(flash, 6, 6);
+        Runs.store(flash, 7, 4);
+        // Valid are 0 .. 3 in block 0, 5 in 2, 6 in 3 and 7 in 4; block 1 is free.
+        dueWear("a gap of two", flash, 0, 2, 1, 1, 1);
+        storeWithFuse("cut at the last copy of block 0", flash, 4, 7);
+        // One page is left valid in block 0, as in 2, 3 and 4, and 0 is the least worn.
+        dueWear("block 0 was collected at once", flash, 1, 2, 1, 1, 1);
+        dueTags("its last copy fills block 1", flash, 1, 0, 1, 2, 3);
+        due("which is open", flash.open(), 1);
+        due("one is free", flash.free(), 1);
+        Runs.store(flash, 7, 1);
+        due("the free one is opened next", flash.open(), 0);
     }
 }
