@@ -93,6 +93,8 @@ public final class ModelTest {
             flash.cut();
             model.losePower();
         }
+        // Why CutOnceMoreTest cannot come to its cases by calls alone.
+        EXPECT.no(name + "no block is free between two calls", model.free().isEmpty());
     }
 
     private void askAll() {

@@ -656,6 +656,7 @@ public final class TermsTest {
             due("nothing is lost", flash.read(sector), 100 + sector);
         }
     }
+
     /** There is just room then: the copies fill the open block, which stays open as a full one does. */
     private static void cutCopiesUntilTheOpenBlockIsFull() {
         WornFlash flash = new WornFlash(5, 1);
